@@ -1,3 +1,5 @@
+import java.nio.file.Path;
+
 /** Runs every test of the project; the argument is the project's folder. */
 public final class AllTests {
     private AllTests() {
@@ -9,6 +11,8 @@ public final class AllTests {
         PairTests.add();
         TextTests.add();
         HistoryTests.add();
+        ModelTests.add();
+        RuleTests.add(Path.of(args.length > 0 ? args[0] : "."));
         if (Check.runAll() != 0) {
             System.exit(1);
         }

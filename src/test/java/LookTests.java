@@ -9,6 +9,8 @@ final class LookTests {
     static void add() {
         Check.test("promise 8: of", LookTests::of);
         Check.test("promise 8: of, the edges", LookTests::ofEdges);
+        Check.test("promise 8: of, heights at each tooth", LookTests::ofEachTooth);
+        Check.test("promise 8: of, a roller where another one was", LookTests::ofReused);
         Check.test("promise 8: of, wrong", LookTests::ofWrong);
         Check.test("promise 9: tooth", LookTests::tooth);
         Check.test("promise 10: count", LookTests::count);
@@ -48,6 +50,32 @@ final class LookTests {
         Check.due("the last is below", 0x800000, x.of(0, 2));
         Check.due("the least is the last", 8, x.of(0, 4));
         Check.due("the greatest is the last", 10, x.of(1, 3));
+    }
+
+    private static void ofEachTooth() {
+        RollerMesh x = Shops.withRollers(Shops.teeth(0, 0, 0, 0));
+        for (int tooth = 0; tooth < 4; tooth++) {
+            x.file(0, tooth, 5);
+            Check.due("the greatest at " + tooth, 14, x.of(0, 3));
+            Check.due("the set of it", 1 << tooth, x.of(0, 1));
+            x.file(0, tooth, -5);
+            Check.due("the least at " + tooth, 4, x.of(0, 4));
+            Check.due("the set of it", 1 << tooth, x.of(0, 2));
+            x.file(0, tooth, 0);
+        }
+    }
+
+    private static void ofReused() {
+        RollerMesh x = Shops.withRollers(Shops.teeth(-9, 9, -9, 9), Shops.teeth(-9, 9, -9, 9));
+        x.set(RollerMesh.WEAR, 1);
+        x.set(RollerMesh.SLACK, 30);
+        Check.due("a run that wears both", 0, x.run(0, 1, 1, 30, 1, 4));
+        x.melt(1);
+        x.roller(2, 1);
+        int[] due = {2, 0b11, 0, 10, 10, 0, 0};
+        for (int what = 0; what < due.length; what++) {
+            Check.due("of(1, " + what + ")", due[what], x.of(1, what));
+        }
     }
 
     private static void ofWrong() {

@@ -9,6 +9,7 @@ final class PairTests {
     static void add() {
         Check.test("promise 11: pair, the steps of a turn", PairTests::turns);
         Check.test("promise 11: pair, presses", PairTests::presses);
+        Check.test("promise 11: pair, a short turn behind a long one", PairTests::shortBehindLong);
         Check.test("promise 11: pair, whether it meshes", PairTests::meshes);
         Check.test("promise 12: why", PairTests::why);
         Check.test("promise 12: why, late in a turn", PairTests::whyLate);
@@ -54,6 +55,15 @@ final class PairTests {
         Check.due("deep on deep", 148, x.pair(2, 5, 0, 30, 2));
     }
 
+    private static void shortBehindLong() {
+        RollerMesh x = Shops.withRollers(Shops.teeth(0, 0), Shops.teeth(0, 0), Shops.teeth(-9, 9, 0), Shops.teeth(9, -9));
+        Check.due("a long turn, greatest", 148, x.pair(2, 3, 0, 30, 2));
+        Check.due("a short one, greatest", 105, x.pair(0, 1, 0, 5, 2));
+        Check.due("a long turn, least", 82, x.pair(2, 3, 0, 0, 1));
+        Check.due("a short one, least", 105, x.pair(0, 1, 0, 5, 1));
+        Check.due("a short one meshes", 1, x.pair(0, 1, 0, 5, 3));
+    }
+
     private static void meshes() {
         RollerMesh x = Shops.withRollers(Shops.teeth(0, 3, 0), Shops.teeth(0, 0), Shops.teeth(0, 0, 7));
         Check.due("press 1", 1, x.pair(0, 1, 0, 4, 3));
@@ -81,6 +91,7 @@ final class PairTests {
         Check.due("which the step 0 tells", 0, x.why(0, 1, 0, 5, 1));
         Check.due("not smooth comes ahead of low", 2, x.why(0, 1, 0, 4, 0));
         Check.due("as its step does", 0, x.why(0, 1, 0, 4, 1));
+        Check.due("a press of 1 is not too low, but not smooth", 2, x.why(0, 1, 0, 1, 0));
         Check.due("both in one step: 1", 1, x.why(0, 1, 0, 0, 0));
         Check.due("the step of both", 0, x.why(0, 1, 0, 0, 1));
         x.file(0, 3, 2);
@@ -109,7 +120,7 @@ final class PairTests {
 
     private static void leastGap() {
         RollerMesh x = Shops.withRollers(Shops.teeth(0, 3), Shops.teeth(0, 2), Shops.teeth(-9, -9),
-            Shops.teeth(9, 9), Shops.teeth(9, 9), Shops.teeth(-2, 1));
+            Shops.teeth(9, 9), Shops.teeth(9, 9));
         Check.due("high on high", 6, x.leastGap(0, 1, 0));
         Check.due("high on deep", 4, x.leastGap(0, 1, 1));
         Check.due("the greatest there is", 19, x.leastGap(3, 4, 0));
@@ -122,9 +133,12 @@ final class PairTests {
         x.set(RollerMesh.SLACK, 4);
         Check.due("not smooth by any gap", -6, x.leastGap(0, 1, 0));
         Check.due("smooth by another offset", 4, x.leastGap(0, 1, 1));
-        x.file(5, 0, 0);
-        x.file(5, 1, 0);
-        Check.due("a height of 0", 4, x.leastGap(0, 5, 0));
+        x.set(RollerMesh.SLACK, 3);
+        int ramp = Shops.addRoller(x, 0, 2, 4, 6);
+        int flat = x.roller(2, 0);
+        Check.due("the step 0 is measured by the last one", -6, x.leastGap(ramp, flat, 0));
+        x.set(RollerMesh.SLACK, 6);
+        Check.due("with more slack", 7, x.leastGap(ramp, flat, 0));
     }
 
     private static void bestOffset() {
@@ -205,6 +219,9 @@ final class PairTests {
         x.card(30, 30);
         Check.due("as a run of one turn", 0, x.run(0, 1, 0, 7, 1, 4));
         Check.due("as a run of one step more", 1, x.run(0, 1, 0, 7, 1, 5));
+        x.card(5, 8);
+        // Thicker ones tear in the step 0; the next one begins with the step 0 again.
+        Check.due("each thickness from the step 0 on", 9, x.thickest(0, 1, 0, 7));
     }
 
     private static void wrong() {
