@@ -219,9 +219,12 @@ final class PairTests {
         x.card(30, 30);
         Check.due("as a run of one turn", 0, x.run(0, 1, 0, 7, 1, 4));
         Check.due("as a run of one step more", 1, x.run(0, 1, 0, 7, 1, 5));
-        x.card(5, 8);
-        // Thicker ones tear in the step 0; the next one begins with the step 0 again.
-        Check.due("each thickness from the step 0 on", 9, x.thickest(0, 1, 0, 7));
+        int falling = Shops.addRoller(x, 6, 4, 2, 0);
+        for (int strength = 3; strength <= 20; strength++) {
+            x.card(5, strength);
+            // Thicker ones tear in the step 0; the next one tried must begin with the step 0 again.
+            Check.due("with a strength of " + strength, strength + 1, x.thickest(falling, 1, 0, 7));
+        }
     }
 
     private static void wrong() {
