@@ -12,6 +12,13 @@ public final class AllTests {
         TextTests.add();
         HistoryTests.add();
         ModelTests.add();
+        ConventionEdges.add();
+        RollerEdges.add();
+        PairEdges.add();
+        RunEdges.add();
+        TextEdges.add();
+        HistoryEdges.add();
+        DocumentTests.add(Path.of(args.length > 0 ? args[0] : "."));
         RuleTests.add(Path.of(args.length > 0 ? args[0] : "."));
         if (Check.runAll() != 0) {
             System.exit(1);

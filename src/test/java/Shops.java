@@ -55,7 +55,8 @@ final class Shops {
 
     static String heights(RollerMesh shop, int roller) {
         StringBuilder text = new StringBuilder();
-        for (int tooth = 0; tooth < shop.of(roller, 0); tooth++) {
+        int teeth = shop.of(roller, 0);
+        for (int tooth = 0; tooth < teeth; tooth++) {
             text.append(tooth == 0 ? "" : ",").append(shop.tooth(roller, tooth) - 9);
         }
         return text.toString();
@@ -67,11 +68,25 @@ final class Shops {
         for (int what = 0; what <= 8; what++) {
             text.append(shop.count(what)).append(' ');
         }
-        for (int roller = 0; roller < shop.count(0); roller++) {
+        int rollers = shop.count(0);
+        for (int roller = 0; roller < rollers; roller++) {
             text.append('|').append(heights(shop, roller)).append(' ');
             text.append(shop.of(roller, 5)).append(' ').append(shop.of(roller, 6));
         }
         return text.toString();
+    }
+
+    /** All that there is, the history, the slots and the pad too; it leaves little as it was. */
+    static String deepLooks(RollerMesh shop) {
+        StringBuilder text = new StringBuilder(allLooks(shop));
+        for (int left = shop.undo(); left >= 0; left = shop.undo()) {
+            text.append("\nundone ").append(looks(shop));
+        }
+        for (int slot = 0; slot <= 1; slot++) {
+            text.append("\nslot ").append(shop.restore(slot)).append(' ').append(looks(shop));
+        }
+        text.append("\nfault ").append(shop.fault()).append(" orders ").append(shop.carryOut());
+        return text.append(' ').append(looks(shop)).toString();
     }
 
     /** The looks, and with them the pad's length and the number of changes that can be undone. */
