@@ -274,6 +274,12 @@ final class PairEdges extends Edges {
             .pair(0, 1, 0, 5, 2)));
         edge("2 the greatest press and 100", "in the last one of 552 steps alone",
             () -> due(113, late(24, 23, -3).pair(0, 1, 0, 7, 2)));
+        edge("1 the least press and 100", "in the step 1 alone", () -> due(96, shop(teeth(0, 9), teeth(0, 0))
+            .pair(0, 1, 0, 5, 1)));
+        edge("2 the greatest press and 100", "in the step 1 alone", () -> due(114, shop(teeth(0, -9), teeth(0, 0))
+            .pair(0, 1, 0, 5, 2)));
+        edge("1 the least press and 100", "of a short turn asked behind a long one", () -> due(105, behindLong(9, 1)));
+        edge("2 the greatest press and 100", "of a short turn asked behind a long one", () -> due(105, behindLong(-9, 2)));
         edge("1 the least press and 100", "all the same", () -> due(105, flat(2, 3).pair(0, 1, 0, 5, 1)));
         edge("2 the greatest press and 100", "all the same", () -> due(105, flat(2, 3).pair(0, 1, 0, 5, 2)));
         edge("0 the steps of a turn", "a short turn asked behind a long one", () -> {
@@ -293,6 +299,13 @@ final class PairEdges extends Edges {
             x.undo();
             due("undone", 1, x.pair(0, 1, 0, 9, 3));
         });
+    }
+
+    /** Something about a flat pair with a turn of 2 steps, asked behind that of one with 6 whose teeth are not flat. */
+    private static int behindLong(int height, int what) {
+        RollerMesh x = shop(teeth(height, height, height), teeth(height, height), teeth(0, 0), teeth(0, 0));
+        x.pair(0, 1, 0, 5, what);
+        return x.pair(2, 3, 0, 5, what);
     }
 
     private static void why() {
@@ -363,6 +376,11 @@ final class PairEdges extends Edges {
         edge("NONE if there is none", "the step 0 is not smooth", () -> due(NONE, shop(teeth(0, 7), teeth(0, 0))
             .leastGap(0, 1, 0)));
         edge("NONE if there is none", "just smooth", () -> due(7, shop(teeth(0, 6), teeth(0, 0)).leastGap(0, 1, 0)));
+        edge("NONE if there is none", "the step 0 alone is not smooth", () -> {
+            RollerMesh x = shop(teeth(0, 1, 2, 3), teeth(0, 0));
+            x.set(SLACK, 2);
+            due(NONE, x.leastGap(0, 1, 0));
+        });
         edge("NONE if there is none", "the last step alone is not smooth", () -> {
             RollerMesh x = shop(teeth(4, 2, 0, 5), teeth(0, 0));
             x.set(SLACK, 4);
@@ -413,6 +431,8 @@ final class PairEdges extends Edges {
         edge("1 that gap", "not that of one that is not smooth", () -> due(4, bestWithSlack(4, 1, upper, lower)));
         edge("NONE if it meshes with none", "the offset", () -> due(NONE, bestWithSlack(3, 0, upper, lower)));
         edge("NONE if it meshes with none", "the gap", () -> due(NONE, bestWithSlack(3, 1, upper, lower)));
+        edge("NONE if it meshes with none", "the step 0 alone is not smooth by each offset",
+            () -> due(NONE, bestWithSlack(2, 0, teeth(0, 1, 2, 3), teeth(0, 0))));
         edge("NONE if it meshes with none", "with the last offset alone it does",
             () -> due(2, bestWithSlack(0, 0, teeth(4, 3, 2), teeth(1, 2, 0))));
     }

@@ -334,6 +334,26 @@ final class RollerEdges extends Edges {
         edge("1 teeth above 0, as a set", "none", () -> due(0, shop(teeth(0, -1, -9)).of(0, 1)));
         edge("1 teeth above 0, as a set", "all of 3", () -> due(7, shop(teeth(1, 9, 2)).of(0, 1)));
         edge("1 teeth above 0, as a set", "a tooth at 0 between two", () -> due(5, shop(teeth(1, 0, 1)).of(0, 1)));
+        String sets = "1 teeth above 0, as a set, 2 teeth below 0, as a set";
+        edge(sets, "not of the teeth of the one that was there before", () -> {
+            RollerMesh x = shop(teeth(1, 1, 1, -1, -1));
+            x.melt(0);
+            x.roller(2, 0);
+            x.roller(3, 0);
+            same("0 0 0 0", x.of(0, 1) + " " + x.of(0, 2) + " " + x.of(1, 1) + " " + x.of(1, 2));
+        });
+        edge(sets, "not of a tooth behind the last one that was there before", () -> {
+            RollerMesh x = shop(teeth(1, 1, 1));
+            x.melt(0);
+            x.roller(2, -1);
+            same("0 3", x.of(0, 1) + " " + x.of(0, 2));
+        });
+        edge(sets, "of a roller that was worn", () -> {
+            RollerMesh x = shop(teeth(2, -2), teeth(0, 0));
+            x.set(WEAR, 1);
+            x.run(0, 1, 0, 30, 1, 2);
+            same("1 2", x.of(0, 1) + " " + x.of(0, 2));
+        });
         edge("2 teeth below 0, as a set", "none", () -> due(0, shop(teeth(0, 1, 9)).of(0, 2)));
         edge("2 teeth below 0, as a set", "all of 3", () -> due(7, shop(teeth(-1, -9, -2)).of(0, 2)));
         edge("2 teeth below 0, as a set", "a tooth at 0 between two", () -> due(5, shop(teeth(-1, 0, -1)).of(0, 2)));
@@ -349,6 +369,11 @@ final class RollerEdges extends Edges {
             due(0, x.of(0, 5));
         });
         edge("6 how often it was worn", "never", () -> due(0, flat(2).of(0, 6)));
+        edge("6 how often it was worn", "never, with teeth that are all high", () -> {
+            RollerMesh x = fresh();
+            x.roller(24, 9);
+            due(0, x.of(0, 6));
+        });
         edge("6 how often it was worn", "more often than its teeth are high", () -> {
             RollerMesh x = shop(teeth(2, 1), teeth(0, 0));
             x.set(WEAR, 1);

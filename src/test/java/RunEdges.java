@@ -320,6 +320,15 @@ final class RunEdges extends Edges {
             x.run(0, 1, 0, 30, 1, 24);
             same("1" + repeated(",0", 22) + ",1", Shops.heights(x, 0));
         });
+        edge(words, "all of 24 teeth, and nothing of the next roller", () -> {
+            RollerMesh x = fresh();
+            x.roller(24, 1);
+            x.roller(24, 0);
+            x.roller(24, 1);
+            x.set(WEAR, 1);
+            x.run(0, 1, 0, 30, 1, 24);
+            same("24 24 0 0 1", x.of(0, 0) + " " + x.of(1, 0) + " " + x.of(0, 1) + " " + x.of(1, 5) + " " + x.of(1, 6));
+        });
         edge(words, "its cards met the teeth of before", () -> {
             RollerMesh x = shop(teeth(1, 1), teeth(0, 0));
             x.set(WEAR, 1);
