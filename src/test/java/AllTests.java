@@ -19,6 +19,7 @@ public final class AllTests {
         TextEdges.add();
         HistoryEdges.add();
         DocumentTests.add(Path.of(args.length > 0 ? args[0] : "."));
+        ReadmeTests.add(Path.of(args.length > 0 ? args[0] : "."));
         RuleTests.add(Path.of(args.length > 0 ? args[0] : "."));
         if (Check.runAll() != 0) {
             System.exit(1);

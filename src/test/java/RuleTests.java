@@ -7,7 +7,9 @@ import java.nio.file.Files;
 import java.nio.file.Path;
 import java.util.ArrayList;
 import java.util.List;
+import java.util.Map;
 import java.util.Set;
+import java.util.TreeMap;
 import java.util.TreeSet;
 import java.util.regex.Matcher;
 import java.util.regex.Pattern;
@@ -30,6 +32,7 @@ final class RuleTests {
         Check.test("rules 2, 5, 11: the classes inside", RuleTests::classesInside);
         Check.test("rules 3, 4, 6, 12, 13: the source", () -> source(project));
         Check.test("rule 11: short methods", () -> shortMethods(project));
+        Check.test("rules 8 and 11: no recursion, and calls that go eight deep at most", () -> depths(project));
     }
 
     private static void methods() {
@@ -144,5 +147,47 @@ final class RuleTests {
                 Check.due("the lines of " + lines[begun].trim(), 40, isClass ? 40 : at - begun);
             }
         }
+    }
+
+    private static void depths(Path project) {
+        Map<String, Set<String>> calls = callsByName(project);
+        for (String signature : FACE) {
+            String name = signature.substring(0, signature.indexOf('('));
+            Check.due("what " + name + " calls is known", 1, calls.containsKey(name) ? 1 : 0);
+            int depth = depth(name, calls, 1);
+            Check.due(name + " goes " + depth + " deep, eight at most", 1, depth <= 8 ? 1 : 0);
+        }
+    }
+
+    /** Methods of one name are taken for one, so that a depth may come out too large, but never too small. */
+    private static Map<String, Set<String>> callsByName(Path project) {
+        Pattern begin = Pattern.compile("(?: {4}| {8})(?:[\\w\\[\\]]+ )+(\\w+)\\([^;]*\\{");
+        Pattern call = Pattern.compile("\\b(\\w+)\\(");
+        Map<String, Set<String>> calls = new TreeMap<>();
+        Set<String> body = new TreeSet<>();
+        for (String line : code(project).split("\n")) {
+            Matcher begins = begin.matcher(line);
+            if (begins.matches()) {
+                body = calls.computeIfAbsent(begins.group(1), name -> new TreeSet<>());
+                continue;
+            }
+            Matcher found = call.matcher(line);
+            while (found.find()) {
+                body.add(found.group(1));
+            }
+        }
+        calls.values().forEach(called -> called.retainAll(calls.keySet()));
+        return calls;
+    }
+
+    private static int depth(String name, Map<String, Set<String>> calls, int level) {
+        int deepest = level;
+        // What calls itself would have no end, and what goes nine deep has been found.
+        if (level <= 8) {
+            for (String called : calls.getOrDefault(name, Set.of())) {
+                deepest = Math.max(deepest, depth(called, calls, level + 1));
+            }
+        }
+        return deepest;
     }
 }
